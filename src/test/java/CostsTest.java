@@ -16,6 +16,7 @@ public final class CostsTest {
         weights();
         weightRefusals();
         marks();
+        sixteenParts();
         bits();
         CHECK.finish();
     }
@@ -164,6 +165,9 @@ public final class CostsTest {
         CHECK.due(ELEMENT, "dearest when no line holds", () -> bom.dearest(3, 1));
         bom.setChoice(1, 3);
         CHECK.due(3, "dearest of a single line", () -> bom.dearest(3, 1));
+        bom.addLine(3, 6, 2, 1, 1, 999);
+        bom.setPrice(2, 1);
+        CHECK.due(4, "dearest at the last position", () -> bom.dearest(3, 1));
         CHECK.due(ELEMENT, "dearest of a bought part", () -> bom.dearest(1, 1));
         CHECK.due(INDEX, "dearest(4, 1)", () -> bom.dearest(4, 1));
         CHECK.due(INDEX, "dearest(-1, 0)", () -> bom.dearest(-1, 0));
@@ -234,7 +238,24 @@ public final class CostsTest {
         CHECK.due(ARGUMENT, "costChange(0, 1000)", () -> bom.costChange(0, 1000));
         CHECK.due(3, "markCosts of three parts", () -> bom.markCosts(500));
         CHECK.due(0.0f, "costChange of the third part", () -> bom.costChange(2, 1));
-        CHECK.due(after - after + 0.0f, "costChange of the first part", () -> bom.costChange(0, 500));
+        CHECK.due(0.0f, "costChange of the first part", () -> bom.costChange(0, 500));
+    }
+
+    private static void sixteenParts() {
+        BillOfMaterials bom = new BillOfMaterials();
+        for (int part = 0; part < 16; part++) {
+            bom.addPart('m', 100 + part, 1000);
+        }
+        bom.addLine(15, 6, 0, 2, 1, 500);
+        CHECK.due(16, "markCosts of 16 parts", () -> bom.markCosts(500));
+        CHECK.due(16, "markCosts again for another number", () -> bom.markCosts(501));
+        float last = 1.15f;
+        float more = last + 2.0f * 100.0f / 100.0f * 1.0f;
+        CHECK.due(more - last, "costChange of the last part", () -> bom.costChange(15, 500));
+        CHECK.due(more, "cost of the last part", () -> bom.cost(15, 1));
+        CHECK.due(more, "costByWalking of the last part", () -> bom.costByWalking(15, 1));
+        CHECK.due(3.0, "weight of the last part", () -> bom.weight(15, 1));
+        CHECK.due(0, "dearest of the last part", () -> bom.dearest(15, 1));
     }
 
     private static void bits() {

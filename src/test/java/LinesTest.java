@@ -149,9 +149,13 @@ public final class LinesTest {
         CHECK.due(STATE, "a line behind one of two variants", () -> bom.addLine(0, 1, 2, 1, 500, 999));
         bom.endBefore(1, 600);
         CHECK.due(3, "a line behind both variants", () -> bom.addLine(0, 1, 2, 1, 600, 999));
-        CHECK.due(4, "a condition on option 0", () -> bom.addVariant(0, 3, 1, 1, 0, 1));
+        bom.addLine(1, 1, 2, 1, 1, 1);
+        bom.addLine(1, 2, 2, 1, 999, 999);
+        CHECK.due(STATE, "a variant over a line for 1", () -> bom.addVariant(1, 1, 2, 1, 0, 1));
+        CHECK.due(STATE, "a variant over a line for 999", () -> bom.addVariant(1, 2, 2, 1, 0, 1));
+        CHECK.due(6, "a condition on option 0", () -> bom.addVariant(0, 3, 1, 1, 0, 1));
         CHECK.due(STATE, "no condition beside one on option 0", () -> bom.addLine(0, 3, 1, 1, 1, 999));
-        CHECK.due(5, "no condition first", () -> bom.addLine(0, 4, 1, 1, 1, 999));
+        CHECK.due(7, "no condition first", () -> bom.addLine(0, 4, 1, 1, 1, 999));
         CHECK.due(STATE, "option 0 beside no condition", () -> bom.addVariant(0, 4, 1, 1, 0, 8));
         CHECK.due(STATE, "option 3 beside no condition", () -> bom.addVariant(0, 4, 1, 1, 3, 8));
         CHECK.due(true, "isConsistent", () -> bom.isConsistent());
@@ -176,6 +180,8 @@ public final class LinesTest {
         CHECK.due(INDEX, "lastSerial(40)", () -> bom.lastSerial(40));
         CHECK.due(40, "a last serial number of a full table", () -> bom.endBefore(39, 41) - 1);
         CHECK.due(true, "isConsistent when full", () -> bom.isConsistent());
+        CHECK.due(1L, "quantity when full", () -> bom.quantity(0, 1, 40));
+        CHECK.due(0L, "quantity behind the last line", () -> bom.quantity(0, 1, 41));
     }
 
     private static void replaceFrom() {

@@ -12,6 +12,7 @@ public final class ListsTest {
         listRefusals();
         outputLine();
         longestList();
+        growingList();
         quantities();
         quantityRefusals();
         greatestQuantity();
@@ -147,8 +148,38 @@ public final class ListsTest {
         CHECK.due("20x15,20x15,20x15,20x15,20x15,20x15", "a shorter list then", () -> written(bom, 3, 1));
     }
 
+    /** More entries than fit into the first rows, each different from its neighbours. */
+    private static void growingList() {
+        BillOfMaterials bom = withParts("ppmmmmmmmmmmmmmm");
+        StringBuilder want = new StringBuilder();
+        for (int position = 1; position <= 6; position++) {
+            bom.addLine(0, position, 1, position, 1, 999);
+            bom.addLine(1, position, 9 + position, 21 - position, 1, 999);
+        }
+        for (int entry = 0; entry < 36; entry++) {
+            int factor = entry / 6 + 1;
+            int position = entry % 6 + 1;
+            want.append(entry > 0 ? "," : "").append(factor * (21 - position)).append('x').append(9 + position);
+        }
+        CHECK.due(11, "listPart where the list has just grown", () -> bom.listPart(0, 1, 7));
+        CHECK.due(18L, "listQuantity of the grown list", () -> bom.listQuantity(0, 1, 2));
+        CHECK.due(want.toString(), "the text of a growing list", () -> written(bom, 0, 1));
+        BillOfMaterials other = withParts("ppm");
+        for (int position = 1; position <= 6; position++) {
+            other.addLine(0, position, 1, position, 1, 999);
+            other.addLine(1, position, 2, 21 - position, 1, 999);
+        }
+        for (int entry = 35; entry >= 0; entry--) {
+            int index = entry;
+            CHECK.due((long) (entry / 6 + 1) * (20 - entry % 6), "listQuantity " + entry,
+                    () -> other.listQuantity(0, 1, index));
+        }
+    }
+
     private static void quantities() {
         BillOfMaterials bom = nested();
+        CHECK.due(120L, "quantityByWalking as the first question", () -> bom.quantityByWalking(0, 2, 99));
+        CHECK.due(121L, "quantityByWalking for another number", () -> bom.quantityByWalking(0, 2, 100));
         int[] components = {0, 1, 2, 3, 4, 5};
         long[] atFirst = {1, 2, 120, 6, 7 + 10 + 120 * 9, 6};
         long[] withVariant = {1, 2, 121, 6, 7 + 10 + 66 + 121 * 9, 6};
@@ -213,6 +244,18 @@ public final class ListsTest {
         CHECK.due(3, "whereUsed(4, 999)", () -> bom.whereUsed(4, 999));
         bom.setChoice(1, 1);
         CHECK.due(4, "whereUsed(4, 999) with a variant", () -> bom.whereUsed(4, 999));
+        BillOfMaterials full = withParts("mmmmmmmmmmmmmmmm");
+        full.addLine(15, 6, 0, 1, 1, 60);
+        full.addLine(15, 5, 1, 1, 61, 999);
+        full.addLine(0, 1, 14, 1, 1, 700);
+        full.addLine(1, 1, 14, 1, 1, 999);
+        CHECK.due(3, "whereUsed(14) of 16 parts", () -> full.whereUsed(14, 1));
+        CHECK.due(2, "whereUsed(14) of 16 parts for another number", () -> full.whereUsed(14, 701));
+        CHECK.due(1, "whereUsed(0) by the last part", () -> full.whereUsed(0, 60));
+        CHECK.due(0, "whereUsed(0) behind its line", () -> full.whereUsed(0, 61));
+        CHECK.due(2, "levels of the last part", () -> full.levels(15, 61));
+        CHECK.due(1, "levels of the first part", () -> full.levels(0, 700));
+        CHECK.due(0, "levels of the first part behind its line", () -> full.levels(0, 701));
         CHECK.due(INDEX, "whereUsed(6, 1)", () -> bom.whereUsed(6, 1));
         CHECK.due(INDEX, "whereUsed(-1, 0)", () -> bom.whereUsed(-1, 0));
         CHECK.due(ARGUMENT, "whereUsed(0, 0)", () -> bom.whereUsed(0, 0));
