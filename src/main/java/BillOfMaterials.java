@@ -17,6 +17,7 @@ public final class BillOfMaterials {
     private static final int OPTIONS = 4;
     private static final int POSITIONS = 6;
     private static final int NO_LINE = -1;
+    private static final int MAX_DIGITS = 19;
 
     private final Bill bill;
     private final OrderBook orderBook;
@@ -1010,10 +1011,7 @@ public final class BillOfMaterials {
 
         // The number is not negative.
         void putNumber(long number) {
-            int digits = 1;
-            for (long rest = number / 10; rest > 0; rest = rest / 10) {
-                digits++;
-            }
+            int digits = digitsOf(number);
             makeRoom(digits);
             long rest = number;
             for (int i = size + digits - 1; i >= size; i--) {
@@ -1021,6 +1019,16 @@ public final class BillOfMaterials {
                 rest = rest / 10;
             }
             size += digits;
+        }
+
+        private static int digitsOf(long number) {
+            int digits = 1;
+            long rest = number / 10;
+            while (rest > 0 && digits < MAX_DIGITS) {
+                digits++;
+                rest = rest / 10;
+            }
+            return digits;
         }
 
         private void makeRoom(int added) {

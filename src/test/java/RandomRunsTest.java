@@ -13,7 +13,8 @@ public final class RandomRunsTest {
     private static final String[] FACE = {
         "6 addPart kind cents grams", "3 setPrice part cents", "2 setGrams part grams", "4 setKind part kind",
         "1 parts", "1 kind part",
-        "24 addLine part position child quantity serial last", "16 addVariant part position child quantity option choices",
+        "24 addLine part position child quantity serial last",
+        "16 addVariant part position child quantity option choices",
         "8 replaceFrom line serial part quantity", "3 endBefore line serial", "4 setScrap line percent", "1 lines",
         "2 lastSerial line", "3 holds line serial", "4 setChoice option choice", "1 choice option",
         "3 listSize part serial", "3 listPart part serial index", "3 listQuantity part serial index",
@@ -64,7 +65,8 @@ public final class RandomRunsTest {
             }
             Object want = answer(model, call[1], arguments);
             Object got = answer(program, call[1], arguments);
-            history.append(call[1]).append(java.util.Arrays.toString(arguments)).append(" -> ").append(got).append('\n');
+            history.append(call[1]).append(java.util.Arrays.toString(arguments)).append(" -> ").append(got)
+                    .append('\n');
             answers.merge(call[1] + (got instanceof Class ? " " + got : " answers"), 1, Integer::sum);
             if (!want.equals(got)) {
                 System.out.println(history + "due was " + want);
