@@ -115,6 +115,10 @@ final class LinesSentences {
             BillOfMaterials bom = Fixtures.made(2);
             bom.addVariant(0, 3, 1, 4, 2, 5);
             t.due(999, "lastSerial(0)", bom, b -> b.lastSerial(0));
+            t.due(ARGUMENT, "endBefore its first number", bom, b -> b.endBefore(0, 1));
+            t.due(ARGUMENT, "endBefore behind its last number", bom, b -> b.endBefore(0, 1000));
+            t.due(ARGUMENT, "replaceFrom its first number", bom, b -> b.replaceFrom(0, 1, 1, 1));
+            t.due(ARGUMENT, "replaceFrom behind its last number", bom, b -> b.replaceFrom(0, 1000, 1, 1));
             boolean[] want = {true, false, true, false};
             for (int choice = 0; choice < 4; choice++) {
                 bom.setChoice(2, choice);
@@ -126,6 +130,8 @@ final class LinesSentences {
             t.due(0, "setScrap", bom, b -> b.setScrap(0, 50));
             bom.addVariant(0, 4, 1, 4, 2, 5);
             t.due(0, "setScrap of the next variant", bom, b -> b.setScrap(1, 50));
+            t.due(999, "endBefore its second number", bom, b -> b.endBefore(0, 2));
+            t.due(2, "replaceFrom its last number", bom, b -> b.replaceFrom(1, 999, 1, 1));
         });
         Adding adding = (b, parent, position, child, quantity) -> b.addVariant(parent, position, child, quantity, 0, 3);
         parentPositionChildQuantity(s, adding);
